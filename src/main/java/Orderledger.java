@@ -22,8 +22,7 @@ public final class Orderledger {
     private static final int MOST_QUEUED = 12;
     private static final int LAST_TOKEN = 136;
     private static final int FIRST_NAME = 100;
-    private static final String NAMES = "x y z i j k put del secret let need tell if then else end each in .. do "
-            + "get has open ( ) = + - * < == ; org of and or , ";
+    private static final String NAMES = "x y z i j k put del secret let need tell if then else end each in .. do get has open ( ) = + - * < == ; org of and or , ";
 
     /** The samples in a row, each with NONE behind it. */
     private static final int[] SAMPLES = {
@@ -276,7 +275,7 @@ public final class Orderledger {
         if (!isBelow(sheet, CONTRACTS)) {
             throw new IndexOutOfBoundsException();
         }
-        return faultOf(sheet, isPolicy);
+        return parser.read(sheets[sheet], lengths[sheet], isPolicy);
     }
 
     /** Promise 19. */
@@ -284,7 +283,7 @@ public final class Orderledger {
         if (!isBelow(sheet, CONTRACTS)) {
             throw new IndexOutOfBoundsException();
         }
-        return faultOf(sheet, true) == NONE ? parser.rule : NONE;
+        return parser.read(sheets[sheet], lengths[sheet], true) == NONE ? parser.rule : NONE;
     }
 
     // ---- proposals
@@ -295,7 +294,7 @@ public final class Orderledger {
             throw new IndexOutOfBoundsException();
         }
         int number = proposals.size();
-        if (number >= MOST_PROPOSALS || faultOf(contract, false) != NONE) {
+        if (number >= MOST_PROPOSALS || parser.read(sheets[contract], lengths[contract], false) != NONE) {
             return refuse();
         }
         proposals.add(new Proposal(number, contract, x, y, z, NONE, parser.copyCode()));
@@ -308,7 +307,7 @@ public final class Orderledger {
             throw new IndexOutOfBoundsException();
         }
         int number = proposals.size();
-        if (number >= MOST_PROPOSALS || faultOf(sheet, true) != NONE) {
+        if (number >= MOST_PROPOSALS || parser.read(sheets[sheet], lengths[sheet], true) != NONE) {
             return refuse();
         }
         proposals.add(new Proposal(number, contract, 0, 0, 0, parser.rule, new int[0]));
@@ -509,7 +508,18 @@ public final class Orderledger {
 
     /** Promise 41. */
     public boolean isSound() {
-        return judge();
+        for (int k = 0; k < ORDERERS; k++) {
+            if (!net.orderers[k].isInOrder()) {
+                return false;
+            }
+        }
+        Peer first = longest();
+        for (int k = 0; k < PEERS; k++) {
+            if (!peers[k].isBeginningOf(first) || !peers[k].hasOwnSecretsOnly()) {
+                return false;
+            }
+        }
+        return !net.hasSharedTerm && isMadeAnew(first);
     }
 
     /** Promise 42. */
@@ -534,8 +544,8 @@ public final class Orderledger {
         for (int sheet = 0; sheet < CONTRACTS; sheet++) {
             writeSheet(sheet);
             d = mixText(d);
-            d = mix(d, faultOf(sheet, false));
-            d = mix(d, faultOf(sheet, true));
+            d = mix(d, parser.read(sheets[sheet], lengths[sheet], false));
+            d = mix(d, parser.read(sheets[sheet], lengths[sheet], true));
         }
         for (int k = 0; k < proposals.size(); k++) {
             d = mixProposal(d, proposals.get(k));
@@ -543,7 +553,7 @@ public final class Orderledger {
         for (int k = 0; k < PEERS; k++) {
             d = mixPeer(d, peers[k]);
         }
-        return mix(d, judge() ? 1 : 0);
+        return mix(d, isSound() ? 1 : 0);
     }
 
     // ---- what the face is made of
@@ -597,11 +607,6 @@ public final class Orderledger {
             sheets[sheet][at] = token;
             lengths[sheet] = at + 1;
         }
-    }
-
-    private int faultOf(int sheet, boolean isPolicy) {
-        return isPolicy ? parser.readPolicy(sheets[sheet], lengths[sheet])
-                : parser.readContract(sheets[sheet], lengths[sheet]);
     }
 
     private void writeSheet(int sheet) {
@@ -684,21 +689,6 @@ public final class Orderledger {
     }
 
     // ---- whether all is sound
-
-    private boolean judge() {
-        for (int k = 0; k < ORDERERS; k++) {
-            if (!net.orderers[k].isInOrder()) {
-                return false;
-            }
-        }
-        Peer first = longest();
-        for (int k = 0; k < PEERS; k++) {
-            if (!peers[k].isBeginningOf(first) || !peers[k].hasOwnSecretsOnly()) {
-                return false;
-            }
-        }
-        return !net.hasSharedTerm && isMadeAnew(first);
-    }
 
     private Peer longest() {
         Peer first = peers[0];
@@ -1102,7 +1092,6 @@ public final class Orderledger {
         boolean hasSharedTerm = false;
 
         Net() {
-            Arrays.fill(sides, 0);
             for (int k = 0; k < MACHINES; k++) {
                 isUp[k] = true;
             }
@@ -1145,20 +1134,17 @@ public final class Orderledger {
             spare = mail;
             posted = 0;
             for (int k = 0; k < many && k < mail.size(); k++) {
-                deliver(mail.get(k));
+                Message letter = mail.get(k);
+                if (areTogether(letter.sender, letter.receiver) && isUp[letter.receiver]) {
+                    orderers[letter.receiver].receive(letter);
+                } else {
+                    lost++;
+                }
             }
             for (int k = 0; k < ORDERERS; k++) {
                 if (isUp[k]) {
                     orderers[k].takeTurn();
                 }
-            }
-        }
-
-        private void deliver(Message mail) {
-            if (areTogether(mail.sender, mail.receiver) && isUp[mail.receiver]) {
-                orderers[mail.receiver].receive(mail);
-            } else {
-                lost++;
             }
         }
 
@@ -1280,7 +1266,7 @@ public final class Orderledger {
         }
 
         int lay(Entry laid) {
-            int n = last() + 1;
+            int n = log.size() + 1;
             if (n >= membersAt.length || n >= blocksAt.length) {
                 membersAt = Arrays.copyOf(membersAt, 2 * n);
                 blocksAt = Arrays.copyOf(blocksAt, 2 * n);
@@ -1493,6 +1479,9 @@ public final class Orderledger {
         }
 
         private void place(int n, Entry told) {
+            if (told == null) {
+                return;
+            }
             if (n <= last() && termAt(n) != told.term) {
                 dropFrom(n);
             }
@@ -1997,6 +1986,8 @@ public final class Orderledger {
         int[] tokens = new int[0];
         int count = 0;
         int place = 0;
+        /** The one at the place; NONE at the end, and behind a fault. */
+        int token = NONE;
         int fault = NONE;
         /** The first number that a policy must not have there. */
         int doubt = NONE;
@@ -2004,16 +1995,18 @@ public final class Orderledger {
         final int[] code = new int[512];
         int length = 0;
 
-        int readContract(int[] sheet, int many) {
+        /** Tells the fault; what was read stays until the next reading. */
+        int read(int[] sheet, int many, boolean isPolicy) {
             start(sheet, many);
-            readRun(0);
-            return finish();
-        }
-
-        int readPolicy(int[] sheet, int many) {
-            start(sheet, many);
-            rule = readParty(0);
-            return finish();
+            if (isPolicy) {
+                rule = readParty(0);
+            } else {
+                readRun(0);
+            }
+            if (fault == NONE) {
+                fault = place < count ? place : doubt;
+            }
+            return fault;
         }
 
         int[] copyCode() {
@@ -2023,44 +2016,39 @@ public final class Orderledger {
         private void start(int[] sheet, int many) {
             tokens = sheet;
             count = Math.min(many, sheet.length);
-            place = 0;
+            place = NONE;
             fault = NONE;
             doubt = NONE;
             length = 0;
+            step();
         }
 
-        private int finish() {
-            if (fault == NONE) {
-                fault = place < count ? place : doubt;
-            }
-            return fault;
-        }
-
-        /** The next token; NONE at the end, and behind a fault. */
-        private int look() {
-            return fault == NONE && isBelow(place, count) ? tokens[place] : NONE;
+        private void step() {
+            place++;
+            token = place >= 0 && place < count ? tokens[place] : NONE;
         }
 
         private void fail() {
             if (fault == NONE) {
                 fault = place;
+                token = NONE;
             }
         }
 
-        private void want(int token) {
-            if (look() == token) {
-                place++;
+        private void want(int wanted) {
+            if (fault == NONE && token == wanted) {
+                step();
             } else {
                 fail();
             }
         }
 
         private boolean isNumber() {
-            return isBelow(look(), FIRST_VARIABLE);
+            return token >= 0 && token < FIRST_VARIABLE;
         }
 
         private boolean isVariable() {
-            return look() >= FIRST_VARIABLE && look() <= LAST_VARIABLE;
+            return token >= FIRST_VARIABLE && token <= LAST_VARIABLE;
         }
 
         /** Lays an instruction and tells where. */
@@ -2087,15 +2075,15 @@ public final class Orderledger {
                 return;
             }
             readStatement(depth);
-            for (int k = 0; k < MOST_TOKENS && look() == SEMICOLON; k++) {
-                place++;
+            for (int k = 0; k < MOST_TOKENS && token == SEMICOLON; k++) {
+                step();
                 readStatement(depth);
             }
         }
 
         private void readStatement(int depth) {
             emit(Executor.BEGIN, 0);
-            switch (look()) {
+            switch (token) {
                 case PUT: readSetting(Executor.KEY, Executor.PUT, depth); break;
                 case SECRET: readSetting(Executor.SLOT, Executor.SEAL, depth); break;
                 case DEL: readSingle(Executor.DEL, depth); break;
@@ -2109,7 +2097,7 @@ public final class Orderledger {
         }
 
         private void readSetting(int look, int act, int depth) {
-            place++;
+            step();
             readSum(depth + 1);
             emit(look, 0);
             want(EQUALS);
@@ -2118,7 +2106,7 @@ public final class Orderledger {
         }
 
         private void readSingle(int act, int depth) {
-            place++;
+            step();
             readSum(depth + 1);
             emit(act, 0);
         }
@@ -2129,13 +2117,13 @@ public final class Orderledger {
                 fail();
                 return 0;
             }
-            int variable = look() - FIRST_VARIABLE;
-            place++;
+            int variable = token - FIRST_VARIABLE;
+            step();
             return variable;
         }
 
         private void readLet(int depth) {
-            place++;
+            step();
             int variable = readVariable();
             want(EQUALS);
             readSum(depth + 1);
@@ -2143,13 +2131,13 @@ public final class Orderledger {
         }
 
         private void readIf(int depth) {
-            place++;
+            step();
             readSum(depth + 1);
             want(THEN);
             int unless = emit(Executor.UNLESS, 0);
             readRun(depth + 1);
-            if (look() == ELSE) {
-                place++;
+            if (token == ELSE) {
+                step();
                 int jump = emit(Executor.JUMP, 0);
                 leadHere(unless);
                 readRun(depth + 1);
@@ -2161,7 +2149,7 @@ public final class Orderledger {
         }
 
         private void readEach(int depth) {
-            place++;
+            step();
             int variable = readVariable();
             want(IN);
             readSum(depth + 1);
@@ -2178,9 +2166,9 @@ public final class Orderledger {
 
         private void readSum(int depth) {
             readTerm(depth);
-            for (int k = 0; k < MOST_TOKENS && look() >= PLUS && look() <= SAME; k++) {
-                int act = Executor.ADD + look() - PLUS;
-                place++;
+            for (int k = 0; k < MOST_TOKENS && token >= PLUS && token <= SAME; k++) {
+                int act = Executor.ADD + token - PLUS;
+                step();
                 readTerm(depth);
                 emit(act, 0);
             }
@@ -2190,13 +2178,13 @@ public final class Orderledger {
             if (depth > DEEPEST) {
                 fail();
             } else if (isNumber()) {
-                emit(Executor.PUSH, look());
-                place++;
+                emit(Executor.PUSH, token);
+                step();
             } else if (isVariable()) {
                 emit(Executor.LOAD, readVariable());
-            } else if (look() >= GET && look() <= OPEN) {
-                int act = Executor.GET + look() - GET;
-                place++;
+            } else if (token >= GET && token <= OPEN) {
+                int act = Executor.GET + token - GET;
+                step();
                 readTerm(depth + 1);
                 emit(act, 0);
             } else {
@@ -2214,35 +2202,35 @@ public final class Orderledger {
                 fail();
                 return 0;
             }
-            if (look() == ORG) {
+            if (token == ORG) {
                 return readOrg();
             }
-            if (look() == LEFT) {
+            if (token == LEFT) {
                 return readPair(depth);
             }
             return readSeveral(depth);
         }
 
         private int readOrg() {
-            place++;
+            step();
             if (!isNumber()) {
                 fail();
                 return 0;
             }
-            int org = look();
+            int org = token;
             if (org > 2) {
                 doubtAt(place);
             }
-            place++;
+            step();
             return org == 0 ? 170 : org == 1 ? 204 : 240;
         }
 
         private int readPair(int depth) {
-            place++;
+            step();
             int one = readParty(depth + 1);
-            boolean isBoth = look() == AND;
-            if (look() == OR) {
-                place++;
+            boolean isBoth = token == AND;
+            if (token == OR) {
+                step();
             } else {
                 want(AND);
             }
@@ -2257,14 +2245,14 @@ public final class Orderledger {
                 return 0;
             }
             int at = place;
-            int least = look();
-            place++;
+            int least = token;
+            step();
             want(OF);
             want(LEFT);
             int many = 1;
             long counts = countIn(0, readParty(depth + 1));
-            for (int k = 0; k < MOST_TOKENS && look() == COMMA; k++) {
-                place++;
+            for (int k = 0; k < MOST_TOKENS && token == COMMA; k++) {
+                step();
                 counts = countIn(counts, readParty(depth + 1));
                 many++;
             }
@@ -2432,6 +2420,8 @@ public final class Orderledger {
                 push(argument);
             } else if (act == LOAD) {
                 push(cell(variables, argument));
+            } else if (act == OPEN) {
+                openSecret();
             } else if (act >= GET) {
                 lookUp(act);
             } else {
@@ -2452,37 +2442,31 @@ public final class Orderledger {
         }
 
         private void lookUp(int act) {
-            int number = pop();
-            if (!isBelow(number, act == OPEN ? SECRETS : PLAIN_KEYS)) {
+            int key = pop();
+            if (key < 0 || key >= PLAIN_KEYS) {
                 fail = 2;
                 return;
             }
-            int key = act == OPEN ? sumKey(number) : number;
-            if (!isBelow(key, KEYS)) {
+            isRead[key] = true;
+            push(act == GET ? state.values[key] : state.versions[key] == NONE ? 0 : 1);
+        }
+
+        private void openSecret() {
+            int number = pop();
+            int seal = SECRETS * proposal.contract + number;
+            if (number < 0 || number >= SECRETS || seal < 0 || seal >= SEALS) {
+                fail = 2;
                 return;
             }
-            isRead[key] = true;
-            if (act == OPEN) {
-                push(openSecret(key));
-            } else {
-                push(act == GET ? state.values[key] : state.versions[key] == NONE ? 0 : 1);
-            }
-        }
-
-        private int sumKey(int secret) {
-            return FIRST_SUM + SECRETS * proposal.contract + secret;
-        }
-
-        private int openSecret(int key) {
-            int version = state.versions[key];
+            int version = state.versions[FIRST_SUM + seal];
+            isRead[FIRST_SUM + seal] = true;
             if (version == NONE) {
-                return 0;
-            }
-            if (cell(state.heldVersions, key - FIRST_SUM) != version) {
+                push(0);
+            } else if (state.heldVersions[seal] == version) {
+                push(state.heldValues[seal]);
+            } else {
                 fail = 3;
-                return 0;
             }
-            return cell(state.heldValues, key - FIRST_SUM);
         }
 
         private void perform(int act, int argument) {
@@ -2493,14 +2477,18 @@ public final class Orderledger {
                     break;
                 case KEY: lookAt(PLAIN_KEYS); break;
                 case SLOT: lookAt(SECRETS); break;
-                case PUT: put(); break;
+                case PUT:
+                    int v = pop();
+                    write(pop(), WRITTEN, v);
+                    break;
                 case DEL:
                     lookAt(PLAIN_KEYS);
-                    if (fail == 0) {
-                        write(pop(), DELETED, 0);
-                    }
+                    write(pop(), DELETED, 0);
                     break;
-                case SEAL: seal(); break;
+                case SEAL:
+                    int secret = pop();
+                    keepSecret(pop(), secret);
+                    break;
                 case LET: set(argument, pop()); break;
                 case NEED: fail = pop() == 0 ? 1 : 0; break;
                 case TELL: told = pop(); break;
@@ -2518,28 +2506,22 @@ public final class Orderledger {
         }
 
         private void write(int key, int kind, int v) {
-            if (isBelow(key, KEYS)) {
+            if (key >= 0 && key < KEYS) {
                 kinds[key] = kind;
                 written[key] = v;
             }
         }
 
-        private void put() {
-            int v = pop();
-            write(pop(), WRITTEN, v);
-        }
-
-        private void seal() {
-            int v = pop();
-            int secret = pop();
-            if (isBelow(secret, SECRETS)) {
-                write(sumKey(secret), WRITTEN, sumOf(secret, v, proposal.number));
-                secrets[secret] = v;
+        private void keepSecret(int number, int secret) {
+            int key = FIRST_SUM + SECRETS * proposal.contract + number;
+            if (number >= 0 && number < SECRETS) {
+                write(key, WRITTEN, sumOf(number, secret, proposal.number));
+                secrets[number] = secret;
             }
         }
 
         private void set(int variable, int v) {
-            if (isBelow(variable, variables.length)) {
+            if (variable >= 0 && variable < variables.length) {
                 variables[variable] = v;
             }
         }
