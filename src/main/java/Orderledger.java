@@ -508,18 +508,15 @@ public final class Orderledger {
 
     /** Promise 41. */
     public boolean isSound() {
-        for (int k = 0; k < ORDERERS; k++) {
-            if (!net.orderers[k].isInOrder()) {
-                return false;
-            }
-        }
         Peer first = longest();
-        for (int k = 0; k < PEERS; k++) {
-            if (!peers[k].isBeginningOf(first) || !peers[k].hasOwnSecretsOnly()) {
-                return false;
-            }
+        boolean isFine = !net.hasSharedTerm && areLogsInOrder() && areChainsOf(first);
+        anew.clear();
+        isFine = isFine && haveState(0);
+        // One walk along the longest chain; at each height the peers of that height are looked at.
+        for (int n = 0; n < first.height() && isFine; n++) {
+            isFine = isExecutedAnew(first.chain.get(n).transactions, n) && haveState(n + 1);
         }
-        return !net.hasSharedTerm && isMadeAnew(first);
+        return isFine;
     }
 
     /** Promise 42. */
@@ -700,34 +697,37 @@ public final class Orderledger {
         return first;
     }
 
-    /** Goes along the longest chain once; at each height the peers of that height are looked at. */
-    private boolean isMadeAnew(Peer first) {
-        anew.clear();
-        boolean isSame = haveState(0);
-        for (int n = 0; n < first.height() && isSame; n++) {
-            Transaction[] row = first.chain.get(n).transactions;
-            for (int k = 0; k < row.length && isSame; k++) {
-                isSame = isExecutedAnew(row[k], n * 4 + k);
-            }
-            isSame = isSame && haveState(n + 1);
+    private boolean areLogsInOrder() {
+        boolean isFine = true;
+        for (int k = 0; k < ORDERERS && isFine; k++) {
+            isFine = net.orderers[k].isInOrder();
         }
-        return isSame;
+        return isFine;
     }
 
-    private boolean isExecutedAnew(Transaction transaction, int version) {
-        if (anew.codeOf(transaction) == State.VALID) {
-            if (transaction.isHonest) {
-                int fail = executor.execute(transaction.proposal, anew, false);
-                executor.writeResult(out);
-                if (fail != 0 || !isSameText(transaction.result.text)) {
-                    return false;
-                }
-            }
-            anew.apply(transaction.result, version);
-            anew.holdAll(transaction, version);
+    private boolean areChainsOf(Peer longest) {
+        boolean isFine = true;
+        for (int k = 0; k < PEERS && isFine; k++) {
+            isFine = peers[k].isBeginningOf(longest) && peers[k].hasOwnSecretsOnly();
         }
-        anew.isTaken[transaction.proposal.number] = true;
-        return true;
+        return isFine;
+    }
+
+    private boolean isExecutedAnew(Transaction[] row, int block) {
+        boolean isFine = true;
+        for (int k = 0; k < row.length && isFine; k++) {
+            if (anew.codeOf(row[k]) == State.VALID) {
+                if (row[k].isHonest) {
+                    int fail = executor.execute(row[k].proposal, anew, false);
+                    executor.writeResult(out);
+                    isFine = fail == 0 && isSameText(row[k].result.text);
+                }
+                anew.apply(row[k].result, 4 * block + k);
+                anew.holdAll(row[k], 4 * block + k);
+            }
+            anew.isTaken[row[k].proposal.number] = true;
+        }
+        return isFine;
     }
 
     private boolean isSameText(String text) {
@@ -2025,7 +2025,7 @@ public final class Orderledger {
 
         private void step() {
             place++;
-            token = place >= 0 && place < count ? tokens[place] : NONE;
+            token = fault == NONE && place >= 0 && place < count ? tokens[place] : NONE;
         }
 
         private void fail() {
