@@ -1252,8 +1252,8 @@ public final class Orderledger {
         }
 
         int members() {
-            Entry change = at(cell(membersAt, last()));
-            return change == null ? FIRST_MEMBERS : change.members;
+            int n = cell(membersAt, log.size());
+            return n >= 1 && n <= log.size() ? log.get(n - 1).members : FIRST_MEMBERS;
         }
 
         boolean isMember(int orderer) {
@@ -2074,25 +2074,24 @@ public final class Orderledger {
                 fail();
                 return;
             }
-            readStatement(depth);
-            for (int k = 0; k < MOST_TOKENS && token == SEMICOLON; k++) {
-                step();
-                readStatement(depth);
-            }
-        }
-
-        private void readStatement(int depth) {
-            emit(Executor.BEGIN, 0);
-            switch (token) {
-                case PUT: readSetting(Executor.KEY, Executor.PUT, depth); break;
-                case SECRET: readSetting(Executor.SLOT, Executor.SEAL, depth); break;
-                case DEL: readSingle(Executor.DEL, depth); break;
-                case NEED: readSingle(Executor.NEED, depth); break;
-                case TELL: readSingle(Executor.TELL, depth); break;
-                case LET: readLet(depth); break;
-                case IF: readIf(depth); break;
-                case EACH: readEach(depth); break;
-                default: fail(); break;
+            boolean hasMore = true;
+            for (int k = 0; k < MOST_TOKENS && hasMore; k++) {
+                emit(Executor.BEGIN, 0);
+                switch (token) {
+                    case PUT: readSetting(Executor.KEY, Executor.PUT, depth); break;
+                    case SECRET: readSetting(Executor.SLOT, Executor.SEAL, depth); break;
+                    case DEL: readSingle(Executor.DEL, depth); break;
+                    case NEED: readSingle(Executor.NEED, depth); break;
+                    case TELL: readSingle(Executor.TELL, depth); break;
+                    case LET: readLet(depth); break;
+                    case IF: readIf(depth); break;
+                    case EACH: readEach(depth); break;
+                    default: fail(); break;
+                }
+                hasMore = token == SEMICOLON;
+                if (hasMore) {
+                    step();
+                }
             }
         }
 

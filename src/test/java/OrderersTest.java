@@ -10,6 +10,9 @@ public final class OrderersTest {
         size();
         catchUp();
         truncation();
+        firstEntryGoes();
+        otherTermAtPrev();
+        matchBeginsAnew();
         ownTermOnly();
         member();
         memberRefused();
@@ -243,6 +246,113 @@ public final class OrderersTest {
         Check.same("committed", x.ofOrderer(0, 5), 3);
         Check.same("sound", x.isSound(), true);
         Check.same("what was dropped was submitted", x.house(2), 3);
+    }
+
+    /** The very first entry, too, if it lay with one orderer alone. */
+    private static void firstEntryGoes() {
+        Orderledger x = new Orderledger();
+        x.tick(6);
+        Check.same("laid as it was elected", x.entry(0, 1), "1 empty");
+        x.side(0, 1);
+        x.tick(14);
+        int leader = x.ofOrderer(1, 0) == 2 ? 1 : 2;
+        int term = x.ofOrderer(leader, 1);
+        Check.same("another one leads", x.ofOrderer(leader, 0) * 10 + x.ofOrderer(0, 0), 22);
+        x.side(0, 0);
+        x.tick(4);
+        Check.same("the first one is another one now", x.entry(0, 1), term + " empty");
+        Check.same("and the only one, committed", x.ofOrderer(0, 3) * 10 + x.ofOrderer(0, 5), 11);
+        Check.same("sound", x.isSound(), true);
+    }
+
+    /** An entry of another term at PREV: NEXT goes back to it, however long the log is. */
+    private static void otherTermAtPrev() {
+        Orderledger x = Check.led(0);
+        x.propose(0, 1, 2, 0);
+        x.endorse(0, 0);
+        x.side(0, 1);
+        for (int k = 0; k < 4; k++) {
+            x.submit(0, 0);
+        }
+        x.tick(16);
+        int leader = x.ofOrderer(1, 0) == 2 ? 1 : 2;
+        x.submit(0, leader);
+        x.tick(4);
+        int before = x.ofOrderer(leader, 1);
+        Check.same("five and three entries", x.ofOrderer(0, 3) * 10 + x.ofOrderer(leader, 3), 53);
+        x.down(leader);
+        x.up(leader);
+        for (int k = 0; k < 40 && x.house(8) < 3; k++) {
+            x.tick(1);
+        }
+        leader = x.ofOrderer(1, 0) == 2 ? 1 : 2;
+        int term = x.ofOrderer(leader, 1);
+        Check.same("a third leader", x.ofOrderer(leader, 0) * 10 + x.house(8), 23);
+        x.side(0, 0);
+        x.tick(1);
+        String told = "0>" + leader + " told ";
+        Check.same("another term at 3", sent(x, told), told + term + " no 2");
+        x.tick(1);
+        Check.same("goes back to it", sent(x, leader + ">0 append "), leader + ">0 append " + term + " 2 " + before
+                + " 2 " + x.ofOrderer(leader, 5));
+        x.tick(1);
+        Check.same("another term at 2", sent(x, told), told + term + " no 1");
+        x.tick(1);
+        Check.same("the same at 1: three are laid", sent(x, told), told + term + " yes 4");
+        x.tick(1);
+        Check.same("the append behind the last no, from the first one on", sent(x, told), told + term + " yes 3");
+        x.tick(8);
+        Check.same("all as the leader has it", x.entry(0, 2) + "/" + x.entry(0, 3) + "/" + x.entry(0, 4) + "/"
+                + x.ofOrderer(0, 3), before + " empty/" + before + " block 0/" + term + " empty/4");
+        Check.same("sound", x.isSound(), true);
+    }
+
+    /** The first message under way that begins so; "" without. */
+    private static String sent(Orderledger x, String beginning) {
+        for (int k = 0; k < x.messages(); k++) {
+            if (x.message(k).startsWith(beginning)) {
+                return x.message(k);
+            }
+        }
+        return "";
+    }
+
+    /** One that leads again does not go by what the others had, when it led ahead. */
+    private static void matchBeginsAnew() {
+        Orderledger x = Check.led(0);
+        x.propose(0, 1, 2, 0);
+        x.endorse(0, 0);
+        x.member(0, 3, true);
+        x.tick(4);
+        x.member(0, 4, true);
+        x.tick(4);
+        x.side(0, 1);
+        x.side(1, 1);
+        for (int k = 0; k < 3; k++) {
+            x.submit(0, 0);
+        }
+        x.tick(7);
+        Check.same("two of five have them", x.ofOrderer(1, 3) * 10 + x.ofOrderer(0, 5), 63);
+        x.tick(20);
+        int leader = x.ofOrderer(2, 0) == 2 ? 2 : x.ofOrderer(3, 0) == 2 ? 3 : 4;
+        Check.same("the others have a leader", x.ofOrderer(leader, 0) * 10 + x.ofOrderer(leader, 5), 24);
+        x.side(0, 0);
+        x.side(1, 0);
+        x.tick(8);
+        Check.same("what two had is gone", x.ofOrderer(0, 3) * 10 + x.ofOrderer(1, 3), 44);
+        x.down(leader);
+        for (int k = 0; k < 20 && x.ofOrderer(0, 0) != 2; k++) {
+            x.tick(1);
+        }
+        int term = x.ofOrderer(0, 1);
+        Check.same("leads again", x.ofOrderer(0, 0) * 10 + x.ofOrderer(0, 3), 25);
+        x.tick(2);
+        for (int k = 0; k < 4; k++) {
+            Check.same("what it sends begins behind its own last one", sent(x, "0>1 append "),
+                    "0>1 append " + term + " 5 " + term + " 0 " + x.ofOrderer(0, 5));
+            Check.same("and is not refused", sent(x, "1>0 told "), "1>0 told " + term + " yes 5");
+            x.tick(1);
+        }
     }
 
     /** An entry of an earlier term is committed only by one of the leader's own term. */

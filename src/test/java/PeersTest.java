@@ -9,6 +9,7 @@ public final class PeersTest {
         codes();
         codeOrder();
         ranges();
+        severalRanges();
         hash();
         holds();
         lookingForSecrets();
@@ -286,6 +287,25 @@ public final class PeersTest {
         Check.write(x, 1, "each k in 30 .. 40 do tell k end");
         Check.order(x, x.propose(1, 0, 0, 0), 0);
         Check.same("an empty range that is empty still", x.block(0, 13), "14:0");
+    }
+
+    /** Each range is looked at with what was in it, not in another one. */
+    private static void severalRanges() {
+        Orderledger x = Check.led(0);
+        Check.write(x, 1, "each k in 0 .. 5 do tell k end ; each k in 5 .. 9 do tell k end ; each k in 0 .. 9 do tell k end");
+        Check.order(x, x.propose(0, 1, 1, 0), 0);
+        Check.order(x, x.propose(0, 6, 1, 0), 0);
+        Check.order(x, x.propose(0, 7, 1, 0), 0);
+        for (int k = 0; k < 2; k++) {
+            x.propose(1, 0, 0, 0);
+            x.endorse(3 + k, 0);
+        }
+        Check.same("three ranges", x.result(3, 0), "a0-5:1@0.0 a5-9:6@1.0,7@2.0 a0-9:1@0.0,6@1.0,7@2.0 t7");
+        Check.order(x, 3);
+        Check.same("all of them as they were", x.block(0, 3), "3:0");
+        Check.order(x, x.propose(0, 8, 1, 0), 0);
+        Check.order(x, 4);
+        Check.same("the second one is not", x.block(0, 5), "4:4");
     }
 
     private static void hash() {
