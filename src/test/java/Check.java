@@ -134,6 +134,45 @@ final class Check {
         x.tick(4);
     }
 
+    /** All five orderers are members, and know it; the orderer 0 leads in the term 1, three entries are committed. */
+    static Orderledger five(int... samples) {
+        Orderledger x = led(samples);
+        x.member(0, 3, true);
+        x.tick(4);
+        x.member(0, 4, true);
+        x.tick(4);
+        return x;
+    }
+
+    // ---- looks at what orderers do
+
+    /** The first answers of ofOrderer(), from 0 on. */
+    static void orderer(Orderledger x, String what, int o, int... due) {
+        for (int w = 0; w < due.length; w++) {
+            same(what + ": of the orderer " + o + ", " + w, x.ofOrderer(o, w), due[w]);
+        }
+    }
+
+    /** All messages that are under way, in their order. */
+    static void messages(Orderledger x, String what, String... due) {
+        same(what + ", so many messages", x.messages(), due.length);
+        for (int k = 0; k < Math.min(due.length, x.messages()); k++) {
+            same(what + ", the message " + k, x.message(k), due[k]);
+        }
+    }
+
+    /** The first message under way that begins so; "" without. */
+    static String sent(Orderledger x, String beginning) {
+        for (int k = 0; k < x.messages(); k++) {
+            if (x.message(k).startsWith(beginning)) {
+                return x.message(k);
+            }
+        }
+        return "";
+    }
+
+    // ---- texts
+
     private static final String NAMES = " x y z i j k put del secret let need tell if then else end each in .. do get "
             + "has open ( ) = + - * < == ; org of and or , ";
 
@@ -151,7 +190,11 @@ final class Check {
     static int token(String word) {
         int at = NAMES.indexOf(" " + word + " ");
         if (at < 0) {
-            return Integer.parseInt(word);
+            int number = Integer.parseInt(word);
+            if (number > 99) {
+                throw new IllegalArgumentException(word + " is no NUMBER");
+            }
+            return number;
         }
         return 100 + NAMES.substring(0, at + 1).split(" ").length - (at == 0 ? 0 : 1);
     }

@@ -119,7 +119,7 @@ public final class WholeTest {
     }
 
     /** By the document's order. */
-    private static long sum(Orderledger x) {
+    static long sum(Orderledger x) {
         Sum s = new Sum();
         for (int w = 0; w < 14; w++) {
             s.add(x.house(w));
