@@ -23,6 +23,7 @@ final class Check {
             got = call.get();
         } catch (RuntimeException e) {
             got = e.getClass();
+            same(what + ", thrown by the ledger itself", e.getStackTrace()[0].getClassName(), "Orderledger");
         }
         same(what, got, due);
         same(what + ", behind it", look(x, true), before);

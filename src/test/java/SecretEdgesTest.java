@@ -4,6 +4,8 @@ public final class SecretEdgesTest {
         whoMayHave();
         whoHoldsBack();
         whatIsHeldBack();
+        heldBackOfFifty();
+        allTwenty();
         heldBackGoesWithEachCode();
         heldBackForOthersStays();
         heldOrMissed();
@@ -115,8 +117,10 @@ public final class SecretEdgesTest {
         seal(x, 0, 1, 0, 0);
         Check.same("a secret", x.ofPeer(0, 8), 2);
         x.sample(0, 7);
-        x.endorse(x.ruling(0, 0), 0);
-        Check.same("a ruling has none", x.ofPeer(0, 8), 2);
+        for (int c = 0; c < 4; c++) {
+            Check.same("a ruling", x.endorse(x.ruling(c, 0), 0), 0);
+            Check.same("has none", x.ofPeer(0, 8), 2);
+        }
         Check.write(x, 0, "secret 0 = 1 ; need 0");
         Check.same("fails", x.endorse(x.propose(0, 0, 0, 0), 0), 1);
         Check.same("one that failed has none", x.ofPeer(0, 8), 2);
@@ -125,6 +129,47 @@ public final class SecretEdgesTest {
         Check.same("one that lies holds it back, too", x.ofPeer(0, 8), 3);
         Check.refused(x, "again", () -> x.endorse(0, 0));
         Check.same("not twice", x.ofPeer(0, 8), 3);
+    }
+
+    /** Of all 50 proposals, the last one too. */
+    private static void heldBackOfFifty() {
+        Orderledger x = sealing();
+        for (int k = 0; k < 50; k++) {
+            seal(x, 0, k % 5, k, 0, 2);
+            Check.same("held back", x.ofPeer(0, 8), k + 1);
+        }
+        Check.order(x, 49);
+        Check.same("the last one is held", x.ofPeer(0, 8) * 100 + x.secret(0, 0, 4), 4949);
+        Check.order(x, 0);
+        Check.same("the first one too", x.ofPeer(0, 8) * 100 + x.secret(0, 0, 0) + x.holds(0, 0, 0), 4801);
+    }
+
+    /** All 20, with those that may have them: the first and the last one of each contract. */
+    private static void allTwenty() {
+        Orderledger x = sealing();
+        x.size(4);
+        for (int c = 0; c < 4; c++) {
+            Check.write(x, c, "secret 0 = x ; secret 1 = x + 1 ; secret 2 = x + 2 ; secret 3 = x + 3 ; secret 4 = x + 4");
+            x.submit(seal(x, c, 10 * c, 0, 0, 1, 2, 3, 4, 5), 0);
+        }
+        x.tick(4);
+        String[] due = {"111100", "001111", "110011", "111100"};
+        for (int c = 0; c < 4; c++) {
+            for (int n = 0; n < 5; n++) {
+                Check.same("held, " + c + " " + n, holds(x, c, n), due[c]);
+                for (int p = 0; p < 6; p++) {
+                    Check.same("the secret, " + c + " " + n, x.secret(p, c, n), due[c].charAt(p) == '1' ? 10 * c + n : 0);
+                }
+            }
+        }
+        Check.same("so many", x.ofPeer(0, 6) + x.ofPeer(2, 6) + x.ofPeer(4, 6), 15 + 15 + 10);
+        Check.same("all sums", x.ofPeer(5, 3) + " " + x.version(5, 44) + " " + x.version(5, 63), "20 0.0 0.3");
+        Check.same("sound", x.isSound(), true);
+        x.lose(0);
+        Check.same("missed, all of them", x.ofPeer(0, 6) * 100 + x.ofPeer(0, 7), 15);
+        x.tick(15);
+        Check.same("found, one in each tick", x.ofPeer(0, 6) * 100 + x.ofPeer(0, 7), 1500);
+        Check.same("sound", x.isSound(), true);
     }
 
     /** Whatever the CODE is. */

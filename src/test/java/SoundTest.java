@@ -9,11 +9,14 @@ import java.util.List;
 public final class SoundTest {
     public static void main(String[] args) {
         logs();
+        logsOfFive();
         terms();
         leaders();
         chains();
         states();
         executions();
+        eachHonestPeer();
+        allSecrets();
         secrets();
         Check.end("SoundTest");
     }
@@ -100,6 +103,20 @@ public final class SoundTest {
         Check.same("behind its commit there may be others", x.isSound(), true);
     }
 
+    /** Each of all five, too. */
+    private static void logsOfFive() {
+        Orderledger x = Check.five();
+        Check.same("sound", x.isSound(), true);
+        for (int k = 0; k < 5; k++) {
+            List<Object> log = list(orderer(x, k), "log");
+            Object was = log.get(2);
+            log.set(2, log.get(1));
+            Check.same("another entry of " + k, x.isSound(), false);
+            log.set(2, was);
+            Check.same("as it was", x.isSound(), true);
+        }
+    }
+
     /** Behind the commit, where nothing but the terms is looked at. */
     private static void terms() {
         Orderledger x = five();
@@ -172,6 +189,17 @@ public final class SoundTest {
         chain.set(1, chain.get(2));
         Check.same("another block", x.isSound(), false);
         chain.set(1, was);
+        Orderledger y = Check.led(0);
+        y.size(4);
+        for (int k = 0; k < 4; k++) {
+            y.propose(0, k, 1, 0);
+            y.endorse(k, 0);
+            y.submit(k, 0);
+        }
+        y.tick(4);
+        for (int k = 0; k < 4; k++) {
+            seen(y, "the code in the place " + k, row(peer(y, 5), "codes"), k, 1);
+        }
         x.side(9, 1);
         Check.order(x, x.propose(0, 7, 7, 7), 0);
         Check.same("a shorter chain is a beginning", x.isSound() && x.ofPeer(4, 0) == 5, true);
@@ -214,6 +242,47 @@ public final class SoundTest {
         }
     }
 
+    /** Whoever of the peers is the honest one. */
+    private static void eachHonestPeer() {
+        for (int peer = 0; peer < 6; peer++) {
+            Orderledger x = Check.led(0);
+            x.lie((peer + 1) % 6, true);
+            x.propose(0, 1, 2, 0);
+            Check.order(x, 0, peer);
+            put(list(x, "proposals").get(0), "y", 3);
+            Check.same("it would be another result now, " + peer, x.isSound(), false);
+            put(list(x, "proposals").get(0), "y", 2);
+            Check.same("as it was, " + peer, x.isSound(), true);
+        }
+    }
+
+    /** Each of the 20 secrets, with each of those that hold it. */
+    private static void allSecrets() {
+        Orderledger x = Check.led();
+        x.size(4);
+        for (int c = 0; c < 4; c++) {
+            Check.write(x, c, "secret 0 = 1 ; secret 1 = 2 ; secret 2 = 3 ; secret 3 = 4 ; secret 4 = 5");
+            x.propose(c, 0, 0, 0);
+            for (int p = 0; p < 6; p++) {
+                x.endorse(c, p);
+            }
+            x.submit(c, 0);
+        }
+        x.tick(4);
+        Check.same("sound", x.isSound(), true);
+        for (int p = 0; p < 6; p++) {
+            for (int seal = 0; seal < 20; seal++) {
+                if (x.holds(p, seal / 5, seal % 5) == 1) {
+                    seen(x, "another secret " + seal + " of " + p, stateRow(x, p, "heldValues"), seal, 1);
+                } else {
+                    stateRow(x, p, "heldValues")[seal] = seal % 5 + 1;
+                    seen(x, "one that " + p + " may not have, " + seal, stateRow(x, p, "heldVersions"), seal,
+                            1 + seal / 5);
+                }
+            }
+        }
+    }
+
     private static void secrets() {
         Orderledger x = five();
         Check.same("held", x.holds(2, 1, 4) * 1000 + x.secret(2, 1, 4), 1030);
@@ -225,6 +294,10 @@ public final class SoundTest {
         Check.same("the org 0 may not have it", x.holds(0, 1, 4), 0);
         values[9] = 30;
         seen(x, "but has it", versions, 9, 4 * 2 + 1);
+        Orderledger y = Check.led(3);
+        Check.order(y, y.propose(0, 0, 50, 3), 0);
+        Check.same("the first secret that there can be", y.holds(3, 0, 0) * 1000 + y.secret(3, 0, 0), 1050);
+        seen(y, "another one in its place", stateRow(y, 3, "heldValues"), 0, 1);
         int[] held = stateRow(x, 2, "heldVersions");
         int was = held[9];
         held[9] = 4;

@@ -11,6 +11,7 @@ public final class ValidationEdgesTest {
         twiceBehindEachCode();
         whatGoesAhead();
         readsOneByOne();
+        readsAtTheEnds();
         readsOfOtherKinds();
         rangesAtTheirEnds();
         rangesOneByOne();
@@ -18,6 +19,7 @@ public final class ValidationEdgesTest {
         deletedWithoutValue();
         deletedAndWrittenAgain();
         fromTheSource();
+        fromEachSource();
         fromOtherPeers();
         fromNobody();
         oneInATick();
@@ -214,6 +216,21 @@ public final class ValidationEdgesTest {
         }
     }
 
+    /** The first and the last of the plain keys, each alone and both. */
+    private static void readsAtTheEnds() {
+        String[] reads = {"put 9 = get 0", "put 9 = get 39", "put 9 = get 0 + get 39", "put 9 = get 0 + get 39 + get 20"};
+        for (String text : reads) {
+            for (int key : new int[] {0, 20, 39}) {
+                Orderledger x = Check.led(0);
+                Check.write(x, 1, text);
+                int p = endorsed(x, 1, 0, 0, 0, 0);
+                Check.same("a change of " + key, codes(x, endorsed(x, 0, key, 1, 0, 0)), "0");
+                boolean isRead = (text + " ").contains("get " + key + " ");
+                Check.same("then " + text, codes(x, p), isRead ? "3" : "0");
+            }
+        }
+    }
+
     private static void readsOfOtherKinds() {
         Orderledger x = Check.led(3, 0, 0, 6);
         Check.write(x, 1, "tell has 5");
@@ -232,6 +249,18 @@ public final class ValidationEdgesTest {
         x.sample(0, 3);
         Check.same("another secret", codes(x, endorsed(x, 0, 1, 7, 10, 0, 2)), "0");
         Check.same("another version of its sum, though it is the same secret", codes(x, opened), "3");
+        Check.write(x, 2, "secret 4 = 3");
+        Orderledger y = Check.led(0, 0, 0, 3);
+        Check.same("the last key", codes(y, endorsed(y, 3, 4, 3, 9, 0, 2)), "0");
+        Check.write(y, 3, "put 30 + x = open 4");
+        int last = endorsed(y, 3, 0, 0, 0, 0);
+        int later = endorsed(y, 3, 1, 0, 0, 2);
+        Check.same("reads it", y.result(last, 0) + " " + y.ofPeer(0, 3), "r63@0.0 w30=3 t0 2");
+        Check.same("as it was", codes(y, last), "0");
+        y.sample(3, 3);
+        Check.same("another one", codes(y, endorsed(y, 3, 4, 3, 10, 0, 2)), "0");
+        Check.same("another version of the last key", codes(y, later), "3");
+        Check.same("what reads nothing has nothing of it", y.result(endorsed(y, 0, 5, 1, 0, 0), 0), "r5@- w5=1 t0");
         int rule = x.ruling(1, 3);
         x.endorse(rule, 0);
         x.endorse(rule, 2);
@@ -403,6 +432,24 @@ public final class ValidationEdgesTest {
         Check.same("in the tick in which it knows of it again", heights(z), "000001");
         z.tick(1);
         Check.same("then all others from that one", heights(z), "111111");
+    }
+
+    /** Each orderer can be a source, 3 and 4 too. */
+    private static void fromEachSource() {
+        for (int o = 0; o < 5; o++) {
+            Orderledger x = Check.five(0);
+            int p = endorsed(x, 0, 1, 1, 0, 0);
+            x.submit(p, 0);
+            for (int peer = 0; peer < 6; peer++) {
+                x.source(peer, o);
+            }
+            x.tick(2);
+            Check.same("not committed, " + o, heights(x), "000000");
+            x.tick(1);
+            Check.same("committed by the leader alone, " + o, heights(x), o == 0 ? "111111" : "000000");
+            x.tick(1);
+            Check.same("then by the others, " + o, heights(x), "111111");
+        }
     }
 
     /** From those that are UP, TOGETHER, and have it. */

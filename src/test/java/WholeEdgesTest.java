@@ -4,9 +4,11 @@ public final class WholeEdgesTest {
         messagesAndLost();
         termsAndLeaders();
         commitsAndHeights();
+        lastOnes();
         counts();
         soundInTheMiddle();
         soundWithOldSecrets();
+        soundWithSecretsOfPlaces();
         soundWithAllCodes();
         digestsByHand();
         longestRun();
@@ -98,6 +100,33 @@ public final class WholeEdgesTest {
         Check.same("sound", x.isSound(), true);
     }
 
+    /** The last ones count as any: the peer 5, the orderer 4. */
+    private static void lastOnes() {
+        Orderledger x = Check.five(0);
+        x.propose(0, 1, 1, 0);
+        x.endorse(0, 0);
+        for (int p = 0; p < 5; p++) {
+            x.down(5 + p);
+        }
+        x.source(5, 4);
+        x.submit(0, 0);
+        x.tick(4);
+        Check.same("the peer 5 alone", x.ofPeer(5, 0), 1);
+        house(x, "its height", 9, 1);
+        Check.same("sound", x.isSound(), true);
+        for (int o = 0; o < 4; o++) {
+            x.down(o);
+        }
+        x.tick(12);
+        Check.orderer(x, "the orderer 4 stands", 4, 1, 2, 4);
+        house(x, "its term", 5, 2, 6, 0, 8, 1);
+        x.up(0);
+        x.up(1);
+        x.tick(2);
+        Check.orderer(x, "the orderer 4 leads", 4, 2, 2, 4);
+        house(x, "one leader", 5, 2, 6, 1, 8, 2);
+    }
+
     private static void counts() {
         Orderledger x = Check.led(0, 6);
         house(x, "at first", 1, 0, 2, 0, 10, 0, 11, 0, 12, 0, 13, 0);
@@ -182,6 +211,24 @@ public final class WholeEdgesTest {
             x.lose(p);
         }
         Check.same("all of them lost", x.isSound(), true);
+    }
+
+    /** A secret of the last place of a block, opened in the block behind it. */
+    private static void soundWithSecretsOfPlaces() {
+        Orderledger x = Check.led(0, 3);
+        x.size(4);
+        for (int k = 0; k < 4; k++) {
+            int p = k < 3 ? x.propose(0, k, 1, 0) : x.propose(1, 4, 77, 9);
+            x.endorse(p, 2);
+            x.submit(p, 0);
+        }
+        x.tick(4);
+        Check.same("the last place", x.version(5, 53) + " " + x.secret(2, 1, 4), "0.3 77");
+        x.sample(1, 4);
+        x.size(1);
+        Check.order(x, x.propose(1, 4, 77, 1), 3);
+        Check.same("opened", x.block(0, 1) + " " + x.result(4, 3), "4:0 r53@0.3 w1x t0");
+        Check.same("sound", x.isSound(), true);
     }
 
     /** Of a lie alone nothing is executed anew; what is not VALID is neither executed nor written. */
