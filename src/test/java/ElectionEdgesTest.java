@@ -18,6 +18,7 @@ public final class ElectionEdgesTest {
         sayToNoCandidate();
         askOfGreaterTerm();
         asksGoToMembersAlone();
+        membersByTheOneThatAsks();
         manyTerms();
         Check.end("ElectionEdgesTest");
     }
@@ -395,6 +396,23 @@ public final class ElectionEdgesTest {
         Check.same("of 0, 2 and 4", x.ofOrderer(2, 9) * 100 + x.ofOrderer(4, 9), 2121);
         Check.same("nothing to 1, but answers", Check.sent(x, "2>1 a") + Check.sent(x, "4>1 a"), "");
         Check.same("nothing to 3", Check.sent(x, "2>3") + Check.sent(x, "4>3"), "");
+    }
+
+    /** By the MEMBERS of the one that asks, though the one that is asked does not know that it is in. */
+    private static void membersByTheOneThatAsks() {
+        Orderledger x = Check.led(0);
+        x.member(0, 3, true);
+        x.down(0);
+        x.up(0);
+        x.down(2);
+        x.tick(4);
+        Check.messages(x, "to all of its members", "0>1 ask 2 2 1", "0>2 ask 2 2 1", "0>3 ask 2 2 1");
+        x.tick(1);
+        Check.messages(x, "3 votes, that is no member by its own log", "1>0 say 2 yes", "3>0 say 2 yes");
+        Check.orderer(x, "two of four would not be enough", 3, 0, 2, 0, 0, 0, 0, 1, -1, 0, 7);
+        x.down(1);
+        x.tick(1);
+        Check.orderer(x, "three of four are", 0, 2, 2, 0, 3, 2, 0, 1, 0, 0, 15);
     }
 
     /** More terms, each with a leader, than a row of 64 holds. */

@@ -23,6 +23,7 @@ public final class LogEdgesTest {
         memberCounts();
         leaderThatIsOut();
         leaderThatIsOutLater();
+        memberThatComesAgain();
         membersThatGo();
         Check.end("LogEdgesTest");
     }
@@ -500,6 +501,20 @@ public final class LogEdgesTest {
         Check.orderer(x, "gone", 0, 0, 1, 0, 2, 1, 2, 0, -1, 0, 6);
         x.tick(3);
         Check.orderer(x, "it waits", 0, 0, 1, 0, 2, 1, 2, 3, -1, 0, 6);
+    }
+
+    /** One that goes out and comes in again is sent what is behind the last thing that it told. */
+    private static void memberThatComesAgain() {
+        Orderledger x = Check.led(0);
+        x.member(0, 2, false);
+        x.tick(3);
+        Check.messages(x, "nothing to one that is out", "1>0 told 1 yes 2", "0>1 append 1 2 1 0 2");
+        Check.same("committed by 0 and 1", x.ofOrderer(0, 5), 2);
+        Check.same("in again", x.member(0, 2, true), 3);
+        x.tick(1);
+        Check.same("all that it has not", Check.sent(x, "0>2"), "0>2 append 1 1 1 2 2");
+        x.tick(3);
+        Check.orderer(x, "it knows of both", 2, 0, 1, 0, 3, 1, 3, 1, 0, 0, 7);
     }
 
     /** MEMBERS that were not committed go with their entry. */

@@ -36,7 +36,7 @@ public final class SoundTest {
         return x;
     }
 
-    private static Object inside(Object on, String name) {
+    static Object inside(Object on, String name) {
         try {
             Field field = on.getClass().getDeclaredField(name);
             field.setAccessible(true);
@@ -46,7 +46,7 @@ public final class SoundTest {
         }
     }
 
-    private static void put(Object on, String name, Object value) {
+    static void put(Object on, String name, Object value) {
         try {
             Field field = on.getClass().getDeclaredField(name);
             field.setAccessible(true);
@@ -56,11 +56,11 @@ public final class SoundTest {
         }
     }
 
-    private static Object orderer(Orderledger x, int k) {
+    static Object orderer(Orderledger x, int k) {
         return Array.get(inside(inside(x, "net"), "orderers"), k);
     }
 
-    private static Object peer(Orderledger x, int k) {
+    static Object peer(Orderledger x, int k) {
         return Array.get(inside(x, "peers"), k);
     }
 
@@ -69,7 +69,7 @@ public final class SoundTest {
         return (List<Object>) inside(on, name);
     }
 
-    private static int[] row(Object on, String name) {
+    static int[] row(Object on, String name) {
         return (int[]) inside(on, name);
     }
 
