@@ -298,6 +298,13 @@ public final class ExecutionEdgesTest {
                 + "end"), "fails 2");
         Check.same("leaves nothing either", result(x, 2, "let i = 1"), "t0");
         Check.same("nor in another loop", result(x, 2, "each j in 1 .. 3 do tell i + 10 + j end"), there(1, 3) + " t12");
+        Check.write(x, 2, "each i in 0 .. 9 do each j in 0 .. 9 do put 3 = 1 + ( 2 + ( 3 + ( 4 + get 40 ) ) ) end end");
+        int failing = x.propose(2, 0, 0, 0);
+        for (int k = 0; k < 100; k++) {
+            Check.same("fails again and again, " + k, x.would(failing, k % 6), 2);
+        }
+        Check.same("and the next one does as ever", result(x, 2, "each i in 1 .. 3 do each j in 2 .. 4 do let k = k + ( 1 + ( 2 + "
+                + "( 3 + ( i * j ) ) ) ) end end ; tell k"), there(1, 3) + " " + there(2, 4) + " " + there(2, 4) + " t39");
         for (int k = 0; k < 3; k++) {
             Check.same("nor do statements count on", result(x, 2, loop(33) + " ; " + loop(33)).endsWith(" t32"), true);
         }
