@@ -1,3 +1,4 @@
+import java.io.DataInputStream;
 import java.io.IOException;
 import java.lang.reflect.Field;
 import java.lang.reflect.Method;
@@ -23,6 +24,7 @@ public final class LanguageTest {
         library(bare);
         lengths(bare);
         members();
+        compiled();
         signs(source);
         Check.end("LanguageTest");
     }
@@ -125,6 +127,70 @@ public final class LanguageTest {
                 Check.same(m + " is private in the face", !isFace || isPublic || m.isSynthetic()
                         || Modifier.isPrivate(m.getModifiers()), true);
             }
+        }
+    }
+
+    /** Rule 4, by what the compiled classes call in the library; and no call that is bound only as it runs. */
+    private static void compiled() throws IOException {
+        Set<String> called = new HashSet<>();
+        List<Class<?>> classes = new ArrayList<>(Arrays.asList(Orderledger.class.getDeclaredClasses()));
+        classes.add(Orderledger.class);
+        for (Class<?> c : classes) {
+            try (DataInputStream in = new DataInputStream(c.getResourceAsStream(c.getName() + ".class"))) {
+                addCalls(in, called);
+            }
+        }
+        Check.same("calls of the library were found", called.contains("java/lang/StringBuilder.setLength"), true);
+        called.removeIf(call -> !call.startsWith("java") && !call.startsWith("bound"));
+        called.removeAll(ALLOWED);
+        Check.same("calls of the library but what is listed", called, Set.of());
+    }
+
+    private static final Set<String> ALLOWED = allowed(
+            "lang/Object <init>", "lang/IllegalArgumentException <init>", "lang/IllegalStateException <init>",
+            "lang/IndexOutOfBoundsException <init>", "lang/Integer bitCount", "lang/Math floorMod max min",
+            "lang/String length charAt equals", "lang/StringBuilder <init> append charAt setLength length toString",
+            "util/ArrayList <init> add get remove size", "util/Arrays copyOf fill");
+
+    private static Set<String> allowed(String... rows) {
+        Set<String> all = new HashSet<>();
+        for (String row : rows) {
+            String[] words = row.split(" ");
+            for (int k = 1; k < words.length; k++) {
+                all.add("java/" + words[0] + "." + words[k]);
+            }
+        }
+        return all;
+    }
+
+    /** From the table of constants that a class file begins with. */
+    private static void addCalls(DataInputStream in, Set<String> called) throws IOException {
+        in.readInt();
+        in.readInt();
+        int many = in.readUnsignedShort();
+        String[] texts = new String[many];
+        int[][] pairs = new int[many][];
+        List<Integer> calls = new ArrayList<>();
+        for (int k = 1; k < many; k++) {
+            int tag = in.readUnsignedByte();
+            switch (tag) {
+                case 1: texts[k] = in.readUTF(); break;
+                case 3: case 4: in.readInt(); break;
+                case 5: case 6: in.readLong(); k++; break;
+                case 7: case 8: case 16: case 19: case 20: pairs[k] = new int[] {in.readUnsignedShort()}; break;
+                case 15: in.readUnsignedByte(); in.readUnsignedShort(); break;
+                default:
+                    pairs[k] = new int[] {in.readUnsignedShort(), in.readUnsignedShort()};
+                    if (tag == 10 || tag == 11) {
+                        calls.add(k);
+                    } else if (tag == 17 || tag == 18) {
+                        called.add("bound as it runs, by constant " + k);
+                    }
+                    break;
+            }
+        }
+        for (int k : calls) {
+            called.add(texts[pairs[pairs[k][0]][0]] + "." + texts[pairs[pairs[k][1]][0]]);
         }
     }
 

@@ -74,6 +74,7 @@ final class Model {
         List<Integer> tokens = new ArrayList<>();
         List<Said> endorsements = new ArrayList<>();
         int submitted = 0;
+        Set<Integer> submittedBy = Set.of();
     }
 
     static final class Pee {
@@ -83,6 +84,7 @@ final class Model {
         TreeMap<Integer, Held> held = new TreeMap<>();
         TreeMap<Integer, Version> missed = new TreeMap<>();
         Set<Integer> heldBack = new HashSet<>();
+        boolean hasLost = false;
     }
 
     boolean[] up = new boolean[11];
@@ -94,6 +96,8 @@ final class Model {
     List<Prop> props = new ArrayList<>();
     Set<Integer> ledTerms = new HashSet<>();
     int now, size = 2, submitted, sent, lost, greatestCommit, endorsed, refused, blanks, knocks;
+    /** How often a run came to what is worth coming to; no answer depends on it. */
+    final TreeMap<String, Integer> met = new TreeMap<>();
 
     Model() {
         Arrays.fill(up, true);
@@ -106,6 +110,12 @@ final class Model {
         }
         for (int k = 0; k < 4; k++) {
             sheets.add(new ArrayList<>());
+        }
+    }
+
+    private void met(boolean isSo, String what) {
+        if (isSo) {
+            met.merge(what, 1, Integer::sum);
         }
     }
 
@@ -169,6 +179,9 @@ final class Model {
                 peerTurn(p);
             }
         }
+        int leaders = house(6);
+        met(leaders == 2, "two LEADERS");
+        met(leaders > 2, "three LEADERS");
     }
 
     public int side(int machine, int s) {
@@ -186,12 +199,14 @@ final class Model {
         }
         up[machine] = false;
         if (machine < 5) {
+            met(!ords[machine].queue.isEmpty(), "DOWN with a QUEUE");
             Ord fresh = new Ord();
             fresh.term = ords[machine].term;
             fresh.vote = ords[machine].vote;
             fresh.log = ords[machine].log;
             ords[machine] = fresh;
         } else {
+            met(!pees[machine - 5].heldBack.isEmpty(), "DOWN with something HELD BACK");
             pees[machine - 5].heldBack.clear();
         }
         return ups();
@@ -239,7 +254,7 @@ final class Model {
         return o.log.isEmpty() ? 0 : o.log.get(o.log.size() - 1).term;
     }
 
-    private static Set<Integer> members(Ord o) {
+    static Set<Integer> members(Ord o) {
         for (int k = o.log.size() - 1; k >= 0; k--) {
             if (o.log.get(k).kind.equals("members")) {
                 return o.log.get(k).members;
@@ -268,6 +283,8 @@ final class Model {
     private void deliver(Msg m) {
         Ord o = ords[m.to];
         if (m.term > o.term) {
+            met(o.role == 2, "a greater TERM than a LEADER's");
+            met(!o.queue.isEmpty(), "a greater TERM drops a QUEUE");
             o.term = m.term;
             o.vote = NONE;
             o.leader = NONE;
@@ -295,6 +312,8 @@ final class Model {
             case "append" -> hearAppend(o, m);
             default -> {
                 if (m.term == o.term && o.role == 2) {
+                    met(!members(o).contains(m.from), "TOLD by one that is no MEMBER");
+                    met(m.yes && m.number < o.match[m.from], "TOLD a number below MATCH");
                     if (m.yes) {
                         o.match[m.from] = Math.max(o.match[m.from], m.number);
                         o.next[m.from] = o.match[m.from] + 1;
@@ -319,6 +338,8 @@ final class Model {
         o.waited = 0;
         int prev = m.number;
         if (prev > 0 && (o.log.size() < prev || o.log.get(prev - 1).term != m.numberTerm)) {
+            met(o.log.size() < prev, "no ENTRY at PREV");
+            met(o.log.size() >= prev, "an ENTRY of another TERM at PREV");
             Msg no = send(m.to, m.from, "told");
             no.yes = false;
             no.number = Math.min(prev - 1, o.log.size());
@@ -328,6 +349,9 @@ final class Model {
         for (Entry e : m.entries) {
             n++;
             if (o.log.size() >= n && o.log.get(n - 1).term != e.term) {
+                for (Entry gone : o.log.subList(n - 1, o.log.size())) {
+                    met(true, "an ENTRY " + gone.kind + " goes");
+                }
                 o.log = new ArrayList<>(o.log.subList(0, n - 1));
             }
             if (o.log.size() < n) {
@@ -424,7 +448,10 @@ final class Model {
         for (int n = o.commit; n < o.log.size(); n++) {
             settled &= !o.log.get(n).kind.equals("members");
         }
+        met(!members(o).contains(number) && !settled, "a LEADER that is no MEMBER goes on");
         if (!members(o).contains(number) && settled) {
+            met(true, "a LEADER leaves");
+            met(!o.queue.isEmpty(), "a LEADER leaves with a QUEUE");
             o.role = 0;
             o.leader = NONE;
             o.waited = 0;
@@ -502,9 +529,12 @@ final class Model {
         }
         Set<Integer> after = new TreeSet<>(members(o));
         boolean changes = isIn ? after.add(which) : after.remove(which);
+        met(!ownTerm, "a change ahead of an ENTRY of its TERM");
         if (!ownTerm || !changes || after.isEmpty()) {
             return refuse();
         }
+        met(isIn && o.match[which] > 0, "a MEMBER comes back within a TERM");
+        met(after.size() == 1, "one MEMBER alone");
         o.log.add(new Entry(o.term, "members", after, List.of()));
         return o.log.size();
     }
@@ -821,7 +851,9 @@ final class Model {
                 }
             } catch (Fail f) {
                 fail = f.how;
+                met(true, "FAIL " + fail);
             }
+            met(fail == 0 && ranges.stream().filter(r -> !r.there.isEmpty()).count() > 2, "RANGES with KEYS inside one another");
             return new Outcome(fail, reads, ranges, writes, secrets, tells);
         }
 
@@ -1024,6 +1056,7 @@ final class Model {
         if (o.fail != 0) {
             return o.fail;
         }
+        met(pees[peer].lies, "a lie");
         if (pees[peer].lies) {
             for (int k : new ArrayList<>(o.writes.keySet())) {
                 if (k < 40 && o.writes.get(k) != null) {
@@ -1077,6 +1110,9 @@ final class Model {
             return refuse();
         }
         String text = mostSaid(p);
+        met(p.submitted > 0 && !p.submittedBy.equals(endorsersNow(p)), "SUBMITTED again with other ENDORSERS");
+        met(p.endorsements.size() > endorsersNow(p).size(), "ENDORSEMENTS that differ");
+        p.submittedBy = endorsersNow(p);
         Outcome outcome = null;
         for (Said s : p.endorsements) {
             if (outcome == null && s.text.equals(text)) {
@@ -1201,12 +1237,14 @@ final class Model {
             }
             next = blocks.size() > h ? blocks.get(h) : null;
         }
+        boolean isOfSource = next != null;
         for (int k = 0; k < 6; k++) {
             if (next == null && k != number && up[5 + k] && side[5 + k] == side[5 + number]
                     && pees[k].chain.size() > h) {
                 next = pees[k].chain.get(h);
             }
         }
+        met(next != null && !isOfSource, "a BLOCK from another PEER");
         if (next != null) {
             take(number, next);
         }
@@ -1217,6 +1255,8 @@ final class Model {
                         && there.version.equals(p.missed.get(key))) {
                     p.held.put(key, there);
                     p.missed.remove(key);
+                    met(true, "a SECRET is found");
+                    met(p.hasLost, "a SECRET is found behind a loss");
                     return;
                 }
             }
@@ -1228,9 +1268,13 @@ final class Model {
         int n = p.chain.size();
         p.chain.add(block);
         List<Integer> codes = stateOf(p, n + 1).codes.get(n);
+        met(new HashSet<>(codes).size() > 2, "three CODES or more in a BLOCK");
         for (int at = 0; at < block.txs.size(); at++) {
             Tx tx = block.txs.get(at);
             int contract = props.get(tx.proposal).contract;
+            met(true, "CODE " + codes.get(at));
+            met(isOtherByRuling(p, n, at, codes), "a RULING of its BLOCK makes it CODE " + codes.get(at));
+            met(codes.get(at) != 0 && p.heldBack.contains(tx.proposal), "HELD BACK goes with CODE " + codes.get(at));
             if (codes.get(at) == 0 && mayHave(number, contract)) {
                 for (int key : tx.outcome.writes.keySet()) {
                     if (key >= 44) {
@@ -1239,7 +1283,11 @@ final class Model {
                         if (tx.endorsers.contains(number) && p.heldBack.contains(tx.proposal)) {
                             int secret = saidBy(props.get(tx.proposal), number).outcome.secrets.get(key);
                             p.held.put(key, new Held(new Version(n, at), secret));
+                            met(true, "held");
                         } else {
+                            met(tx.endorsers.contains(number), "an ENDORSER misses");
+                            met(!tx.endorsers.contains(number) && p.heldBack.contains(tx.proposal),
+                                    "HELD BACK, but no ENDORSER");
                             p.missed.put(key, new Version(n, at));
                         }
                     }
@@ -1247,8 +1295,24 @@ final class Model {
             }
             p.heldBack.remove(tx.proposal);
         }
-        p.held.values().removeIf(s -> s.version.block <= n - 6);
-        p.missed.values().removeIf(v -> v.block <= n - 6);
+        met(p.held.values().removeIf(s -> s.version.block <= n - 6), "too old to be held");
+        met(p.missed.values().removeIf(v -> v.block <= n - 6), "too old to be missed");
+    }
+
+    /** Whether a RULING ahead in its BLOCK changed what its ENDORSERS come to. */
+    private boolean isOtherByRuling(Pee p, int n, int at, List<Integer> codes) {
+        Tx tx = p.chain.get(n).txs.get(at);
+        int key = 40 + props.get(tx.proposal).contract;
+        Set<Integer> orgs = new TreeSet<>();
+        tx.endorsers.forEach(e -> orgs.add(e / 2));
+        boolean isOther = false;
+        int before = stateOf(p, n).values.getOrDefault(key, 254);
+        for (int k = 0; k < at; k++) {
+            Prop ruled = props.get(p.chain.get(n).txs.get(k).proposal);
+            isOther |= codes.get(k) == 0 && ruled.rule != NONE && 40 + ruled.contract == key
+                    && setOf(before).contains(told(orgs)) != setOf(ruled.rule).contains(told(orgs));
+        }
+        return isOther && props.get(tx.proposal).rule == NONE && codes.get(at) != 1;
     }
 
     public int ofPeer(int peer, int what) {
@@ -1349,6 +1413,8 @@ final class Model {
         }
         Pee p = pees[peer];
         int h = p.chain.size();
+        met(!p.held.isEmpty(), "LOSES what it holds");
+        p.hasLost = true;
         p.held.clear();
         p.missed.clear();
         Told t = stateOf(p, h);

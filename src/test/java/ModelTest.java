@@ -1,7 +1,4 @@
-import java.lang.reflect.InvocationTargetException;
-import java.lang.reflect.Method;
 import java.util.ArrayList;
-import java.util.Arrays;
 import java.util.HashMap;
 import java.util.List;
 import java.util.Map;
@@ -12,63 +9,29 @@ import java.util.Random;
  * must be the same. With an argument: that many runs.
  */
 public final class ModelTest {
-    private static final int CALLS = 512;
-    private static final Map<String, Method> OF_CLASS = methods(Orderledger.class);
-    private static final Map<String, Method> OF_MODEL = methods(Model.class);
     private static final Map<String, Integer> SEEN = new HashMap<>();
 
     private final Random random;
-    private final Orderledger ledger = new Orderledger();
-    private final Model model = new Model();
-    private final List<String> story = new ArrayList<>();
+    private final Twin twin = new Twin();
+    private final Model model = twin.model;
     private final int temper;
-    private int calls = 0;
-    private boolean isWrong = false;
 
     private ModelTest(long seed) {
         random = new Random(seed * 7919 + 17);
         temper = random.nextInt(6);
     }
 
-    private static Map<String, Method> methods(Class<?> of) {
-        Map<String, Method> found = new HashMap<>();
-        for (Method m : of.getDeclaredMethods()) {
-            if (java.lang.reflect.Modifier.isPublic(m.getModifiers())) {
-                m.setAccessible(true);
-                found.put(m.getName(), m);
-            }
-        }
-        return found;
-    }
-
-    private static Object answer(Method m, Object on, Object[] with) {
-        try {
-            return m.invoke(on, with);
-        } catch (InvocationTargetException e) {
-            return "throws." + e.getCause().getClass().getSimpleName();
-        } catch (IllegalAccessException e) {
-            throw new IllegalStateException(e);
-        }
-    }
-
     private Object call(String name, Object... with) {
-        if (calls >= CALLS || isWrong) {
+        Object got = twin.call(name, with);
+        if (got == null) {
             return 0;
         }
-        calls++;
-        Object got = answer(OF_CLASS.get(name), ledger, with);
-        Object due = answer(OF_MODEL.get(name), model, with);
-        story.add(name + Arrays.toString(with) + " -> " + got);
         String kind = name + " " + (got instanceof String s && s.startsWith("throws") ? got
                 : got.equals(-9) ? "REFUSED" : "answer");
         if (name.equals("endorse") || name.equals("would") || name.equals("holds")) {
             kind = name + " " + got;
         }
         SEEN.merge(kind, 1, Integer::sum);
-        if (!got.equals(due)) {
-            isWrong = true;
-            System.out.println(name + Arrays.toString(with) + " answered " + got + ", due is " + due);
-        }
         return got;
     }
 
@@ -203,7 +166,7 @@ public final class ModelTest {
             case 5: call("fault", sheet, random.nextBoolean()); break;
             case 6: call("rule", sheet); break;
             default:
-                if (calls < 420) {
+                if (twin.left() > 78) {
                     write(below(4), chance(15));
                     call("fault", below(4), random.nextBoolean());
                 }
@@ -340,7 +303,7 @@ public final class ModelTest {
         }
         call("tick", 4 + below(14));
         int disorder = new int[] {0, 2, 5, 10, 20, 35}[temper];
-        for (int step = 0; step < 600 && calls < CALLS - 1 && !isWrong; step++) {
+        for (int step = 0; step < 600 && twin.left() > 0; step++) {
             int k = below(100);
             if (k < disorder) {
                 machineCalls();
@@ -358,9 +321,7 @@ public final class ModelTest {
                 trade();
             }
         }
-        call("isSound");
-        isWrong = isWrong || ledger.digest() != model.digest();
-        return !isWrong;
+        return twin.ends();
     }
 
     /** What the runs came to, so that one sees whether they go where the document has its edges. */
@@ -395,10 +356,7 @@ public final class ModelTest {
             }
             if (!isFine) {
                 wrong++;
-                System.out.println("seed " + seed + ", the last calls:");
-                for (int k = Math.max(0, test.story.size() - 12); k < test.story.size(); k++) {
-                    System.out.println("  " + k + " " + test.story.get(k));
-                }
+                test.twin.tell(seed);
             }
         }
         if (args.length > 0) {
